@@ -9,6 +9,7 @@ public final class BuildTest {
         loops();
         shortestLoop();
         loopOfAll();
+        cordToModule0();
         order();
         knobs();
         tables();
@@ -173,6 +174,16 @@ public final class BuildTest {
         DUE.is("order(24)", bay.order(24), -1);
     }
 
+    private static void cordToModule0() {
+        CordBay bay = new CordBay();
+        bay.module(Rig.DELAY, 0);
+        bay.module(Rig.MIX, 0);
+        DUE.is("cord(1, 0, 0)", bay.cord(1, 0, 0), 1);
+        DUE.is("count(1) of module 0", bay.count(1), 1);
+        orderIs(bay, "module 0 is a delay", 0, 1);
+        orderIs(bay, "asked again", 0, 1);
+    }
+
     private static void order() {
         CordBay bay = new CordBay();
         for (int m = 0; m < 7; m++) {
@@ -252,6 +263,7 @@ public final class BuildTest {
         DUE.is("table(7, -1)", bay.table(7, -1), 1);
         DUE.is("missing again", bay.write(7, 0, 9), -2);
         bay.table(7, 3);
+        bay.write(7, 0, 7);
         bay.write(7, 2, 8);
         bay.table(7, -1);
         bay.table(7, 3);

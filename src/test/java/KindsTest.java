@@ -20,6 +20,7 @@ public final class KindsTest {
         switchKind();
         mean();
         loopThroughDelay();
+        module0();
         insThatDoNotCount();
         DUE.end();
     }
@@ -425,6 +426,25 @@ public final class KindsTest {
             DUE.done("loop", bay, 2);
             DUE.row("loop", bay, m, Rig.INTS, block, 10 * block);
         }
+    }
+
+    private static void module0() {
+        CordBay bay = new CordBay();
+        int d = bay.module(Rig.DELAY, 0);
+        int s = Rig.source(bay, Rig.INTS, 0, 4);
+        bay.cord(s, d, 0);
+        bay.block(1);
+        bay.block(1);
+        DUE.row("module 0 is fed", bay, d, Rig.INTS, 4);
+        bay = new CordBay();
+        int shape = bay.module(Rig.SHAPE, 0);
+        s = Rig.source(bay, Rig.DOUBLES, 0, 2048);
+        bay.cord(s, shape, 0);
+        bay.knob(shape, 0, 6);
+        bay.block(2);
+        DUE.row("module 0 comes to its knob", bay, shape, Rig.DOUBLES, 3, 6);
+        bay.block(2);
+        DUE.row("module 0 has come to its knob", bay, shape, Rig.DOUBLES, 6, 6);
     }
 
     private static void insThatDoNotCount() {
