@@ -103,24 +103,24 @@ public final class BackTest {
 
     /** Every way back from 12 blocks, and on again, is as if they had never been. */
     private static void allThatIsTakenBack() {
-        CordBay[] plain = new CordBay[13];
-        for (int blocks = 0; blocks <= 12; blocks++) {
-            plain[blocks] = allKinds();
-            for (int i = 0; i < blocks; i++) {
-                plain[blocks].block(1 + i % 3);
-            }
-        }
         for (int n = 1; n <= 8; n++) {
-            CordBay bay = allKinds();
-            for (int i = 0; i < 12; i++) {
-                bay.block(1 + i % 3);
-            }
-            DUE.is("back(" + n + ")", bay.back(n), 8 - n);
             for (int blocks = 12 - n; blocks <= 12; blocks++) {
-                sameRows("back(" + n + ") at " + blocks, bay, plain[blocks]);
-                bay.block(1 + blocks % 3);
+                CordBay bay = allKindsAfter(12);
+                DUE.is("back(" + n + ")", bay.back(n), 8 - n);
+                for (int i = 12 - n; i < blocks; i++) {
+                    bay.block(1 + i % 3);
+                }
+                sameRows("back(" + n + ") at " + blocks, bay, allKindsAfter(blocks));
             }
         }
+    }
+
+    private static CordBay allKindsAfter(int blocks) {
+        CordBay bay = allKinds();
+        for (int i = 0; i < blocks; i++) {
+            bay.block(1 + i % 3);
+        }
+        return bay;
     }
 
     private static void sameRows(String what, CordBay bay, CordBay want) {

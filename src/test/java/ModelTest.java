@@ -1,7 +1,11 @@
-/** Many runs of calls, drawn by a fixed rule, answered by the class and by the Model alike. */
+/**
+ * Many runs of calls, drawn by a fixed rule, answered by the class and by the Model alike. Each bay has no more calls
+ * than the document promises anything about, so some runs look at much after every block, and others have more blocks.
+ */
 public final class ModelTest {
-    private static final int RUNS = 150;
+    private static final int RUNS = 2000;
     private static final int CALLS = 512;
+    private static final int LONGEST_STEP = 17;
     private static final int[] VALUES = {0, 1, -1, 256, -256, 255, 1000, -70000, 32767, 32768, -32768, -32769,
         16777217, 255999999, 256000001, -256000001, Integer.MAX_VALUE, Integer.MIN_VALUE, Integer.MIN_VALUE + 1};
     private static final int[] KNOBS = {0, 1, -1, 2, 3, 4, 5, 7, 8, -8, 9, 16, -3, 13, 100, -100, 999, 1000, -1000};
@@ -12,6 +16,7 @@ public final class ModelTest {
     private final CordBay bay = new CordBay();
     private final Model model = new Model();
     private final int modulesWanted;
+    private final int lookEvery;
     private long seed;
     private int call = 0;
     int blocksDone = 0;
@@ -21,6 +26,7 @@ public final class ModelTest {
         this.name = "run " + run + " call ";
         this.seed = run * 7919L + 17;
         this.modulesWanted = 2 + draw(23);
+        this.lookEvery = 1 + run % 12;
     }
 
     public static void main(String[] args) {
@@ -31,7 +37,8 @@ public final class ModelTest {
             test.play();
             done += test.blocksDone;
         }
-        due.is("enough blocks are done for the runs to mean something", done > 20 * RUNS, true);
+        System.out.println("ModelTest: " + done + " blocks done");
+        due.is("enough blocks are done for the runs to mean something", done > 10 * RUNS, true);
         due.end();
     }
 
@@ -53,20 +60,24 @@ public final class ModelTest {
         for (int t = 0; t < 3; t++) {
             tableFilled(t);
         }
-        while (call < CALLS) {
+        while (call + LONGEST_STEP < CALLS) {
             int which = draw(100);
             if (which < 15 && model.count(0) < modulesWanted) {
                 moduleJoined();
-            } else if (which < 45) {
-                blockOrBack();
             } else if (which < 65) {
+                blockOrBack();
+            } else if (which < 80) {
                 setting();
-            } else if (which < 75) {
+            } else if (which < 90) {
                 presetOrTake();
             } else {
                 question();
             }
         }
+    }
+
+    private boolean more() {
+        return call < CALLS;
     }
 
     private void same(String what, long got, long want) {
@@ -154,7 +165,9 @@ public final class ModelTest {
                 mend(model.finding(1));
             }
         }
-        compareAll();
+        if (draw(lookEvery) == 0) {
+            compareSome();
+        }
     }
 
     /** Lets most runs go on after a finding. */
@@ -175,32 +188,47 @@ public final class ModelTest {
         }
     }
 
-    private void compareAll() {
-        for (int m = 0; m < model.count(0); m++) {
-            for (int what = 0; what < 4; what++) {
-                due.is(name + call + ": row(" + m + ", " + what + ")", bay.row(m, what), model.row(m, what));
-            }
-            for (int i = 0; i < Math.max(0, model.row(m, 1)); i++) {
-                compareSample(m, i);
-            }
-            due.is(name + call + ": saturations of " + m, bay.count(10 + m), model.count(10 + m));
-            due.is(name + call + ": order(" + m + ")", bay.order(m), model.order(m));
+    /** Two modules and some of the rest; what is overlooked now is seen in another run. */
+    private void compareSome() {
+        for (int i = 0; i < 2 && model.count(0) > 0; i++) {
+            compareModule(draw(model.count(0)));
         }
-        for (int i = 0; i <= model.trace.size(); i++) {
-            due.is(name + call + ": trace(" + i + ")", bay.trace(i), model.trace(i));
+        for (int i = 0; i < 3 && more(); i++) {
+            int at = draw(model.trace.size() + 1);
+            same("trace(" + at + ")", bay.trace(at), model.trace(at));
         }
-        for (int what = 0; what < 3; what++) {
-            due.is(name + call + ": finding(" + what + ")", bay.finding(what), model.finding(what));
+        for (int what = 0; what < 3 && more(); what++) {
+            same("finding(" + what + ")", bay.finding(what), model.finding(what));
         }
-        for (int what = 0; what < 5; what++) {
-            due.is(name + call + ": count(" + what + ")", bay.count(what), model.count(what));
+        for (int what = 0; what < 5 && more(); what++) {
+            same("count(" + what + ")", bay.count(what), model.count(what));
         }
     }
 
+    private void compareModule(int m) {
+        for (int what = 0; what < 4 && more(); what++) {
+            same("row(" + m + ", " + what + ")", bay.row(m, what), model.row(m, what));
+        }
+        for (int i = 0; i < model.row(m, 1) && more(); i++) {
+            compareSample(m, i);
+        }
+        if (more()) {
+            same("saturations of " + m, bay.count(10 + m), model.count(10 + m));
+        }
+        if (more()) {
+            same("order(" + m + ")", bay.order(m), model.order(m));
+        }
+    }
+
+    /** One call: a sample that is there is asked for itself, one that is NO NUMBER or is not there whether it is that. */
     private void compareSample(int m, int i) {
         double want = model.raw(m, i);
-        due.is(name + call + ": isNone(" + m + ", " + i + ")", bay.isNone(m, i), Double.isNaN(want));
-        due.bits(name + call + ": sample(" + m + ", " + i + ")", bay.sample(m, i), Double.isNaN(want) ? 0 : want);
+        if (Double.isNaN(want) || draw(5) == 0) {
+            same("isNone(" + m + ", " + i + ")", bay.isNone(m, i) ? 1 : 0, Double.isNaN(want) ? 1 : 0);
+        } else {
+            call++;
+            due.bits(name + call + ": sample(" + m + ", " + i + ")", bay.sample(m, i), want);
+        }
     }
 
     private void setting() {
@@ -248,10 +276,10 @@ public final class ModelTest {
 
     private void compareTakes() {
         int t = about(model.count(4) + 2);
-        for (int u = 0; u <= model.count(4) + 1; u++) {
-            due.is(name + call + ": equal(" + t + ", " + u + ")", bay.equal(t, u), model.equal(t, u));
+        for (int i = 0; i < 4 && more(); i++) {
+            int u = draw(model.count(4) + 2);
+            same("equal(" + t + ", " + u + ")", bay.equal(t, u), model.equal(t, u));
         }
-        call++;
     }
 
     private void question() {
@@ -262,7 +290,6 @@ public final class ModelTest {
                 same("row(" + m + ", " + i + ")", bay.row(m, i), model.row(m, i));
                 break;
             case 1:
-                call++;
                 compareSample(m, i);
                 break;
             case 2:
