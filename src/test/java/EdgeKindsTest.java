@@ -4,6 +4,7 @@ public final class EdgeKindsTest {
     private static final int NO_NUMBER = Integer.MIN_VALUE;
 
     public static void main(String[] args) {
+        rowKindCountsForSourceAndTurn();
         placeGoesRound();
         placeIsKept();
         rampOverLengths();
@@ -31,6 +32,32 @@ public final class EdgeKindsTest {
         meanCutsOffTowards0();
         meanAtKnobEnds();
         DUE.end();
+    }
+
+    // "a ROW KIND that was told (it counts for SOURCE and TURN alone)"
+    private static void rowKindCountsForSourceAndTurn() {
+        int[] gives = {-1, Rig.DOUBLES, Rig.DOUBLES, Rig.DOUBLES, Rig.DOUBLES, Rig.INTS, Rig.SHORTS, Rig.GATES, -1,
+            Rig.SHORTS, Rig.INTS};
+        for (int rowKind = Rig.GATES; rowKind <= Rig.DOUBLES; rowKind++) {
+            CordBay bay = new CordBay();
+            int doubles = Rig.source(bay, Rig.DOUBLES, 0, 1);
+            int ints = Rig.source(bay, Rig.INTS, 0, 1);
+            int shorts = Rig.source(bay, Rig.SHORTS, 0, 1);
+            int gates = Rig.source(bay, Rig.GATES, 0, 1);
+            int[] in0 = {-1, doubles, doubles, doubles, doubles, ints, shorts, doubles, shorts, shorts, ints};
+            int[] ms = new int[11];
+            for (int kind = 0; kind <= 10; kind++) {
+                ms[kind] = Rig.behind(bay, in0[kind], kind, rowKind);
+            }
+            bay.cord(gates, ms[Rig.SWITCH], 1);
+            bay.knob(ms[Rig.MEAN], 0, 1);
+            DUE.done("ROW KIND", bay, 1);
+            DUE.done("ROW KIND", bay, 1);
+            for (int kind = 0; kind <= 10; kind++) {
+                int want = gives[kind] < 0 ? rowKind : gives[kind];
+                DUE.is("kind " + kind + " told " + rowKind, bay.row(ms[kind], 0), want);
+            }
+        }
     }
 
     // "the PLACE becomes what the PLACE and KNOB 1 together leave when divided by the table's length (0 or above)"
