@@ -22,6 +22,13 @@ final class Due {
         }
     }
 
+    void is(String call, String got, String want) {
+        asked++;
+        if (!got.equals(want)) {
+            tell(call + " answered " + got + ", due is " + want);
+        }
+    }
+
     /** Bit for bit: -0.0 is not 0.0. */
     void bits(String call, double got, double want) {
         asked++;
